@@ -235,7 +235,8 @@ public final class LogRollers {
         if (!isPair(a, b) || !within(n, 1, 200) || !within(what, 0, 4)) {
             return finding(BEYOND);
         }
-        int outcome = tryOut(world.people[a], b, n);
+        startAhead(world.people[a], world.people[b]);
+        int outcome = other.go(world.people[a], world.people[b], n);
         switch (what) {
             case 0:
                 return outcome;
@@ -259,7 +260,8 @@ public final class LogRollers {
         trial.takeFrom(world.people[a]);
         for (int kind = ROLLER; kind <= WAYED; kind++) {
             trial.kind = kind;
-            boolean wins = tryOut(trial, b, n) == SECOND_FELL;
+            startAhead(trial, world.people[b]);
+            boolean wins = other.go(trial, world.people[b], n) == SECOND_FELL;
             if (wins && (bestKind < 0 || other.ticks < fewest)) {
                 bestKind = kind;
                 fewest = other.ticks;
@@ -275,7 +277,8 @@ public final class LogRollers {
         trial.takeFrom(world.people[a]);
         for (int weight = 1; weight <= MOST_WEIGHT; weight++) {
             trial.weight = weight;
-            if (tryOut(trial, b, n) == SECOND_FELL) {
+            startAhead(trial, world.people[b]);
+            if (other.go(trial, world.people[b], n) == SECOND_FELL) {
                 return weight;
             }
         }
@@ -289,7 +292,8 @@ public final class LogRollers {
         trial.takeFrom(world.people[a]);
         for (int lag = MOST_LAG; lag >= 0; lag--) {
             trial.lag = lag;
-            int outcome = tryOut(trial, b, n);
+            startAhead(trial, world.people[b]);
+            int outcome = other.go(trial, world.people[b], n);
             if (outcome == NOBODY_FELL || outcome == SECOND_FELL) {
                 return lag;
             }
@@ -305,8 +309,7 @@ public final class LogRollers {
         int early = 0;
         int behind = 0;
         int outcome = NOBODY_FELL;
-        other.z = world.match.z;
-        other.begin(world.people[a], world.people[b]);
+        startAhead(world.people[a], world.people[b]);
         for (int tick = 0; tick < n && outcome == NOBODY_FELL; tick++) {
             outcome = other.tick(world.people[a], world.people[b]);
             int lean = Math.abs(other.first.lean);
@@ -481,8 +484,7 @@ public final class LogRollers {
         Sheet into = sheets[s];
         int done = 0;
         int outcome = NOBODY_FELL;
-        other.z = world.match.z;
-        other.begin(world.people[a], world.people[b]);
+        startAhead(world.people[a], world.people[b]);
         while (done < into.size && outcome == NOBODY_FELL) {
             outcome = other.tick(world.people[a], world.people[b]);
             into.put(done, other.turn);
@@ -498,8 +500,7 @@ public final class LogRollers {
         }
         Sheet told = sheets[s];
         int outcome = NOBODY_FELL;
-        other.z = world.match.z;
-        other.begin(world.people[a], world.people[b]);
+        startAhead(world.people[a], world.people[b]);
         for (int i = 0; i < told.size; i++) {
             if (outcome != NOBODY_FELL) {
                 return 1 + i;
@@ -641,18 +642,20 @@ public final class LogRollers {
         world.latestOutcome = outcome;
     }
 
-    /** A bout ahead of one (perhaps the trial one) and a person: its outcome; the rest stands in other. */
-    private int tryOut(Person first, int b, int n) {
+    /** Two get on the other log, where z goes on from as it is here. */
+    private void startAhead(Person first, Person second) {
         other.z = world.match.z;
-        other.begin(first, world.people[b]);
-        return other.go(first, world.people[b], n);
+        other.begin(first, second);
     }
 
     private int beatenBy(int person, int n) {
         int beaten = 0;
+        Person one = world.people[person];
         for (int b = 0; b < world.peopleCount; b++) {
-            if (b != person && tryOut(world.people[person], b, n) == SECOND_FELL) {
-                beaten |= 1 << b;
+            if (b != person) {
+                startAhead(one, world.people[b]);
+                boolean wins = other.go(one, world.people[b], n) == SECOND_FELL;
+                beaten |= wins ? 1 << b : 0;
             }
         }
         return beaten;
@@ -826,8 +829,8 @@ public final class LogRollers {
         int feet;
         int lean;
         int left;
-        private int sight;
-        private int shove;
+        int sight;
+        int shove;
 
         void begin(int strength) {
             feet = 0;
@@ -841,11 +844,21 @@ public final class LogRollers {
             left = from.left;
         }
 
-        private void step(int reach) {
+        static int cost(int shove) {
+            return shove == 0 ? 0 : Math.abs(shove) / 10 + 1;
+        }
+
+        void decide(int sees, int pushes) {
+            sight = sees;
+            shove = pushes;
+            left -= cost(pushes);
+        }
+
+        void step(int reach) {
             feet += atMost(sight - feet, reach);
         }
 
-        private void sway(int turn) {
+        void sway(int turn) {
             lean += (turn - feet) / 4;
             lean -= lean / 8;
         }
@@ -899,8 +912,8 @@ public final class LogRollers {
         }
 
         int tick(Person a, Person b) {
-            decide(a, first);
-            decide(b, second);
+            first.decide(seenBy(a), nextShove(a, first));
+            second.decide(seenBy(b), nextShove(b, second));
             roll(a, b);
             // Both draws are made in any case and FIRST's first: z goes on the same way whoever slips.
             stepUnlessSlipping(a, first);
@@ -912,12 +925,6 @@ public final class LogRollers {
             int firstFell = Math.abs(first.lean) > parts[LINE] ? FIRST_FELL : NOBODY_FELL;
             int secondFell = Math.abs(second.lean) > parts[LINE] ? SECOND_FELL : NOBODY_FELL;
             return firstFell + secondFell;
-        }
-
-        private void decide(Person person, Stander stander) {
-            stander.sight = seenBy(person);
-            stander.shove = nextShove(person, stander);
-            stander.left -= cost(stander.shove);
         }
 
         private void roll(Person a, Person b) {
@@ -945,11 +952,7 @@ public final class LogRollers {
         int nextShove(Person person, Stander stander) {
             Way told = within(person.way, 0, MOST_WAYS - 1) ? ways[person.way] : null;
             int shove = person.shove(told, seenBy(person), stander.lean, stander.left, ticks);
-            return stander.left < cost(shove) ? 0 : shove;
-        }
-
-        private static int cost(int shove) {
-            return shove == 0 ? 0 : Math.abs(shove) / 10 + 1;
+            return stander.left < Stander.cost(shove) ? 0 : shove;
         }
     }
 
