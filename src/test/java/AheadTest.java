@@ -367,8 +367,8 @@ public final class AheadTest {
         for (int[] t : two) {
             fiveOf(runners(t[0]), runners(t[0]), t);
         }
-        int[][] none = {{565, 30, 1010, 0}, {6443, 28, 110, 0}, {11483, 28, 21001, 0}};
-        for (int[] t : none) {
+        int[][] late = {{565, 30, 1010, 0}, {6443, 28, 110, 0}, {11483, 28, 21001, 0}, {563, 28, 21211, 2}, {10583, 28, 12212, 1}};
+        for (int[] t : late) {
             fiveOf(runnerAndChecker(t[0]), runnerAndChecker(t[0]), t);
         }
     }

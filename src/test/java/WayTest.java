@@ -4,6 +4,8 @@ public final class WayTest {
         theTape();
         textsThatAreFine();
         faults();
+        aFullTape();
+        bytesOfOldTexts();
         whenItIsFull();
         whichHolds();
         Check.end();
@@ -117,6 +119,31 @@ public final class WayTest {
         fault(six + ";  else:run", six.length() + 3);
         fault(six + ";1000", six.length() + 1);
         fault(six + " else", six.length() + 1);
+    }
+
+    /** Texts of 100 bytes, of which each kind of token is the last one. */
+    private static void aFullTape() {
+        String blanks = " ".repeat(100);
+        Check.due("deed at the end", 0, Check.tell(new LogRollers(), blanks.substring(8) + "else:run"));
+        Check.due("blanks at the end", 0, Check.tell(new LogRollers(), "else:run" + blanks.substring(8)));
+        Check.due("blanks alone", -101, Check.tell(new LogRollers(), blanks));
+        Check.due("digits at the end", -101, Check.tell(new LogRollers(), "turn<" + "0".repeat(95)));
+        Check.due("letters at the end", -6, Check.tell(new LogRollers(), "else:" + "r".repeat(95)));
+        Check.due("a sign at the end", -101, Check.tell(new LogRollers(), blanks.substring(5) + "else:"));
+        Check.due("; at the end", -101, Check.tell(new LogRollers(), blanks.substring(9) + "else:run;"));
+        Check.due("nothing fit at the end", -100, Check.tell(new LogRollers(), blanks.substring(9) + "else:run!"));
+    }
+
+    /** What the tape had earlier is no part of a text. */
+    private static void bytesOfOldTexts() {
+        LogRollers x = new LogRollers();
+        Check.due("a long text", 0, Check.tell(x, "turn<555:run;else:check"));
+        Check.due("a short one", 1, Check.tell(x, "turn<5:run"));
+        Check.due("a number cut short", -7, Check.tell(x, "turn<5"));
+        Check.due("a word cut short", -8, Check.tell(x, "turn<5:ru"));
+        Check.due("blanks", -21, Check.tell(x, " ".repeat(20)));
+        Check.due("fewer blanks", -4, Check.tell(x, "   "));
+        Check.due("nothing", -1, Check.tell(x, ""));
     }
 
     private static void whenItIsFull() {
