@@ -921,7 +921,7 @@ public final class LogRollers {
             first.sway(turn);
             second.sway(turn);
             ticks++;
-            turnAheadOf[ticks % TURNS_KEPT] = turn;
+            turnAheadOf[Math.floorMod(ticks, TURNS_KEPT)] = turn;
             int firstFell = Math.abs(first.lean) > parts[LINE] ? FIRST_FELL : NOBODY_FELL;
             int secondFell = Math.abs(second.lean) > parts[LINE] ? SECOND_FELL : NOBODY_FELL;
             return firstFell + secondFell;

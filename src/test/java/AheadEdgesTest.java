@@ -19,6 +19,7 @@ public final class AheadEdgesTest {
         aheadAtMostN();
         aheadOfEachOutcome();
         aheadByStrength();
+        aheadByTheStrengthOfEach();
         aheadOnALogOfTheSameSort();
         aheadWithZAsItIs();
         aheadInTheLastTick();
@@ -37,6 +38,7 @@ public final class AheadEdgesTest {
         lateInTheLastTick();
         lateWithGaps();
         swingHalves();
+        swingTheGreatestOfEach();
         swingNoSign();
         swingGrowsIfItIsMore();
         swingWhereOneFalls();
@@ -48,6 +50,7 @@ public final class AheadEdgesTest {
         fiveOfEachSort();
         fiveInTheLastTick();
         fiveSlips();
+        fiveAtMost();
         championOfNobody();
         championOfSeveral();
         championInTheLastTick();
@@ -199,6 +202,51 @@ public final class AheadEdgesTest {
         }
         Check.due("they are on it still", 30, x.now(1));
         Check.due("with what is left", 699, x.stands(1, 3));
+    }
+
+    /** A RUNNER (0) and one who does nothing but see at once (1); STRENGTH of each. LEAN of 1 is 7, 14, 20, 25, 29. */
+    private static LogRollers strengths(int line, int ofRunner, int ofOther) {
+        LogRollers x = Edge.bare(line);
+        x.set(0, 4, ofRunner);
+        x.set(1, 2, 0);
+        x.set(1, 3, 99);
+        x.set(1, 4, ofOther);
+        x.sheet(0, 16, 3);
+        return x;
+    }
+
+    /** Each has his own STRENGTH, whoever is FIRST: the runner has all or nothing, the other has what the runner hasn't. */
+    private static void aheadByTheStrengthOfEach() {
+        Edge.allowedAndIdle("the runner is SECOND", 2, () -> strengths(70, 999, 0), x -> x.ahead(1, 0, 6, 0));
+        Edge.allowedAndIdle("the runner is FIRST", 1, () -> strengths(70, 999, 0), x -> x.ahead(0, 1, 6, 0));
+        Edge.allowedAndIdle("what is left of him", 939, () -> strengths(70, 999, 0), x -> x.ahead(0, 1, 6, 4));
+        Edge.allowedAndIdle("best", 0, () -> strengths(70, 999, 0), x -> x.best(1, 0, 6));
+        Edge.allowedAndIdle("light", 1, () -> strengths(70, 999, 0), x -> x.light(1, 0, 6));
+        Edge.allowedAndIdle("late of the other", 1, () -> strengths(70, 999, 0), x -> x.late(1, 0, 6));
+        Edge.allowedAndIdle("late of the runner", 1, () -> strengths(70, 999, 0), x -> x.late(0, 1, 6));
+        Edge.allowedAndIdle("swing of the other", 25, () -> strengths(70, 999, 0), x -> x.swing(1, 0, 4, 1));
+        Edge.allowedAndIdle("swing of the runner", 56, () -> strengths(70, 999, 0), x -> x.swing(0, 1, 4, 1));
+        Edge.allowedAndIdle("beats", 1, () -> strengths(70, 999, 0), x -> x.beats(1, 6));
+        Edge.allowedAndIdle("five", 1, () -> strengths(70, 999, 0), x -> x.five(1, 0, 6));
+        Edge.allowedAndIdle("five the other way round", 2, () -> strengths(70, 999, 0), x -> x.five(0, 1, 6));
+        Edge.allowedAndIdle("champion", 1, () -> strengths(70, 999, 0), x -> x.champion(6));
+        for (int first = 0; first < 2; first++) {
+            int f = first;
+            LogRollers strong = strengths(70, 999, 0);
+            strong.film(0, f, 1 - f);
+            Check.due("film", 99, strong.write(0, 2, 99));
+            Check.due("read", 0, strong.read(0, f, 1 - f));
+            Edge.allowedAndIdle("ahead of a tired one", 0, () -> strengths(0, 0, 999), x -> x.ahead(f, 1 - f, 200, 2));
+            Edge.allowedAndIdle("late with a tired one", 9, () -> strengths(0, 0, 999), x -> x.late(f, 1 - f, 200));
+            Edge.allowedAndIdle("swing of a tired one", 0, () -> strengths(0, 0, 999), x -> x.swing(f, 1 - f, 200, 1));
+            Edge.allowedAndIdle("five with a tired one", 0, () -> strengths(70, 0, 999), x -> x.five(f, 1 - f, 100));
+            LogRollers tired = strengths(70, 0, 999);
+            tired.film(0, f, 1 - f);
+            Check.due("film of a tired one", 0, tired.write(0, 2, 0));
+            Check.due("read of a tired one", 0, tired.read(0, f, 1 - f));
+        }
+        Edge.refused("light of a tired one", Check.NONE, () -> strengths(6, 0, 999), x -> x.light(1, 0, 100));
+        Edge.allowedAndIdle("beats of a tired one", 0, () -> strengths(70, 0, 999), x -> x.beats(1, 100));
     }
 
     private static void aheadOnALogOfTheSameSort() {
@@ -472,6 +520,19 @@ public final class AheadEdgesTest {
         }
     }
 
+    /** One push alone, by a weight of 4: LEAN is 14, 13, 12, 11, 10, 9; the greatest is not the last of its half. */
+    private static void swingTheGreatestOfEach() {
+        int[][] rows = {{2, 14, 13}, {4, 14, 12}, {5, 14, 12}, {6, 14, 11}};
+        for (int[] r : rows) {
+            LogRollers x = steady();
+            x.set(0, 4, 10);
+            x.set(0, 1, 4);
+            Check.due("first half of " + r[0], r[1], x.swing(0, 1, r[0], 0));
+            Check.due("behind it of " + r[0], r[2], x.swing(0, 1, r[0], 1));
+            Check.due("it doesn't grow in " + r[0], 0, x.swing(0, 1, r[0], 2));
+        }
+    }
+
     private static void swingNoSign() {
         LogRollers x = steady();
         Check.tell(x, "else:back");
@@ -611,13 +672,7 @@ public final class AheadEdgesTest {
             int[] in = new int[2];
             int bouts = 0;
             while (bouts < 5 && in[0] < 3 && in[1] < 3) {
-                x.mount(0, 1);
-                int outcome = x.bout(12);
-                in[0] += outcome >> 1;
-                in[1] += outcome & 1;
-                if (outcome == 0) {
-                    x.off();
-                }
+                oneBout(x, 12, in);
                 bouts++;
             }
             int due = in[0] == in[1] || Math.max(in[0], in[1]) < 3 ? 0 : in[0] == 3 ? 1 : 2;
@@ -627,6 +682,38 @@ public final class AheadEdgesTest {
         }
         Check.due("each answer there is", 1, seen[0] > 0 && seen[1] > 0 && seen[2] > 0 ? 1 : 0);
         Check.due("by three, four and five bouts", 1, decidedBy[3] > 0 && decidedBy[4] > 0 && decidedBy[5] > 0 ? 1 : 0);
+    }
+
+    /** "Five BOUTS": two of them won are too few, though a sixth would make it three. */
+    private static void fiveAtMost() {
+        int[] bySixth = new int[2];
+        for (int v = 0; v < 3000; v++) {
+            LogRollers x = slippery(v);
+            int n = 3 + v % 5;
+            int got = x.five(0, 1, n);
+            int[] in = new int[2];
+            for (int bout = 0; bout < 5; bout++) {
+                oneBout(x, n, in);
+            }
+            if (Math.max(in[0], in[1]) < 3) {
+                Check.due("five in " + v + " by " + n, 0, got);
+                oneBout(x, n, in);
+                bySixth[0] += in[0] == 3 && in[1] < 3 ? 1 : 0;
+                bySixth[1] += in[1] == 3 && in[0] < 3 ? 1 : 0;
+            }
+        }
+        Check.due("a sixth would do it for the first", 1, bySixth[0] > 0 ? 1 : 0);
+        Check.due("a sixth would do it for the second", 1, bySixth[1] > 0 ? 1 : 0);
+    }
+
+    private static void oneBout(LogRollers x, int n, int[] in) {
+        x.mount(0, 1);
+        int outcome = x.bout(n);
+        in[0] += outcome >> 1;
+        in[1] += outcome & 1;
+        if (outcome == 0) {
+            x.off();
+        }
     }
 
     private static LogRollers slippery(int v) {

@@ -11,6 +11,9 @@ public final class PushEdgesTest {
         pushWayedWithout();
         pushDeeds();
         pushFirstRuleThatHolds();
+        pushByEachName();
+        pushByEachNameInABout();
+        pushByEachOfSixWays();
         pushWhereNoRuleHolds();
         pushDoesNotAskTheCost();
         pushLeavesAllAsItIs();
@@ -193,6 +196,76 @@ public final class PushEdgesTest {
         int[][] rows = {{0, 20}, {4, 20}, {5, -20}, {8, -20}, {9, -4}, {999, -4}};
         for (int[] r : rows) {
             Check.due("in tick " + r[0], r[1], x.push(5, 8, 0, 9, r[0]));
+        }
+    }
+
+    /** "turn: what he SEES; lean: his LEAN; left: his LEFT; tick: the TICK". */
+    private static void pushByEachName() {
+        String[] names = {"turn", "lean", "left", "tick"};
+        for (int name = 0; name < 4; name++) {
+            LogRollers x = wayed(20, names[name] + ">50:run;" + names[name] + "<40:back");
+            int[][] rows = {{39, 99, -20}, {40, 99, 0}, {45, 0, 0}, {45, 99, 0}, {50, 0, 0}, {51, 0, 20}};
+            for (int[] r : rows) {
+                int[] a = {r[1], r[1], r[1], r[1]};
+                a[name] = r[0];
+                Check.due(names[name] + " " + r[0] + ", the others " + r[1], r[2], x.push(5, a[0], a[1], a[2], a[3]));
+            }
+        }
+    }
+
+    /** On a bare log with a runner, behind 3 ticks: he SEES 66, his FEET are at 33, LEAN is 33, LEFT 500, the TICK is 3. */
+    private static void pushByEachNameInABout() {
+        Object[][] rows = {{"turn", 66}, {"lean", 33}, {"left", 500}, {"tick", 3}};
+        for (Object[] r : rows) {
+            int number = (Integer) r[1];
+            for (int off = -1; off <= 1; off++) {
+                // Nothing is done ahead of the fourth tick: the rule in front sees to it.
+                LogRollers x = Edge.bare(999);
+                x.roller(5, 1);
+                x.set(2, 2, 1);
+                x.set(2, 3, 33);
+                x.set(2, 4, 500);
+                Check.tell(x, "tick<3:wait;" + r[0] + ">" + (number + off) + ":run");
+                x.set(2, 6, 0);
+                x.mount(0, 2);
+                x.bout(3);
+                Check.due("what he SEES", 66, x.stands(1, 4));
+                Check.due("FEET", 33, x.stands(1, 1));
+                Check.due("LEAN", 33, x.stands(1, 2));
+                Check.due(r[0] + " above " + (number + off), off < 0 ? 33 : 0, x.stands(1, 5));
+            }
+        }
+        LogRollers hop = Edge.bare(999);
+        hop.roller(5, 1);
+        hop.set(2, 2, 1);
+        Check.tell(hop, "tick<3:wait;else:hop");
+        hop.set(2, 6, 0);
+        hop.mount(2, 0);
+        hop.bout(3);
+        Check.due("FEET by a reach of 20", 20, hop.stands(0, 1));
+        Check.due("LEAN", 35, hop.stands(0, 2));
+        Check.due("hop by half of LEAN", -17, hop.stands(0, 5));
+    }
+
+    /** "WAYS 0, 1, .. (at most 6)": the first, and the last of six, by push() and in a bout. */
+    private static void pushByEachOfSixWays() {
+        LogRollers x = kinds(20);
+        Edge.bareTheLog(x, 999);
+        for (int way = 0; way < 6; way++) {
+            Check.due("way " + way, way, Check.tell(x, "turn>" + (10 + way) + ":check;else:back"));
+        }
+        for (int way = 0; way < 6; way++) {
+            x.set(5, 6, way);
+            Check.due("at the number of " + way, -20, x.push(5, 10 + way, 0, 9, 30));
+            Check.due("above the number of " + way, -((11 + way) / 2), x.push(5, 11 + way, 0, 9, 30));
+            x.mount(5, 0);
+            Check.due("on the log with way " + way, -20, x.stands(0, 5));
+            x.off();
+            x.mount(0, 5);
+            x.bout(1);
+            Check.due("in a bout with way " + way, -200 / 21, x.now(0));
+            x.off();
+            Check.due("ahead with way " + way, -200 / 21, x.ahead(5, 0, 1, 2));
         }
     }
 
